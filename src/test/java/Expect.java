@@ -16,8 +16,9 @@ final class Expect {
         compare(what, String.valueOf(due), outcome(call));
     }
 
-    void refuses(String what, Class<?> due, Call call) {
-        compare(what, due.getName(), outcome(call));
+    /** Answers whether the call was refused as is due. */
+    boolean refuses(String what, Class<?> due, Call call) {
+        return compare(what, due.getName(), outcome(call));
     }
 
     void same(String what, Call due, Call call) {
@@ -36,7 +37,7 @@ final class Expect {
     }
 
     // The class itself is named, not one above it: the document names which exception goes out.
-    private static String outcome(Call call) {
+    static String outcome(Call call) {
         try {
             return String.valueOf(call.answer());
         } catch (RuntimeException e) {
@@ -44,11 +45,13 @@ final class Expect {
         }
     }
 
-    private void compare(String what, String due, String got) {
+    private boolean compare(String what, String due, String got) {
         asked++;
-        if (!due.equals(got)) {
-            wrong++;
-            System.out.println(what + " answered " + got + ", due is " + due);
+        if (due.equals(got)) {
+            return true;
         }
+        wrong++;
+        System.out.println(what + " answered " + got + ", due is " + due);
+        return false;
     }
 }

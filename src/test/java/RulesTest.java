@@ -124,7 +124,8 @@ public final class RulesTest {
     }
 
     private static void standing() {
-        finds("upper stands", STANDING, new int[] {9, 9, 9, 9, 8, 9, 9}, new int[] {1, 2, 3, 4, 5, 6, 7}, 0, 0, 1, 1, 0, 0, 0);
+        finds("upper stands", STANDING, new int[] {9, 9, 9, 9, 8, 9, 9}, new int[] {1, 2, 3, 4, 5, 6, 7},
+                0, 0, 1, 1, 0, 0, 0);
         finds("lower stands", STANDING, new int[] {1, 2, 3, 4}, new int[] {9, 9, 9, 9}, 0, 0, 0, 0);
         finds("two alike", STANDING, new int[] {9, 8, 9, 9}, new int[] {9, 9, 9, 9}, 0, 0, 0, 0);
     }
