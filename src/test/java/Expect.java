@@ -25,6 +25,10 @@ final class Expect {
         compare(what, outcome(due), outcome(call));
     }
 
+    void says(String what, String due, String got) {
+        compare(what, due, got);
+    }
+
     void holds(String what, boolean got) {
         compare(what, "true", String.valueOf(got));
     }
